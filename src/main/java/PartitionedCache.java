@@ -215,7 +215,6 @@ public final class PartitionedCache {
 
     public int monitored(int tenant, int set, int position) throws IndexOutOfBoundsException {
         requireTenant(tenant);
-        requireIndex(set, SETS);
         if (!isSampled(set)) {
             throw new IndexOutOfBoundsException("the set is not sampled");
         }

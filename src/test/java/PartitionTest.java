@@ -5,6 +5,7 @@ final class PartitionTest {
         moveWayTakesTheEmptiest();
         moveWayAmongEquals();
         moveWayCountsTheDonorsLines();
+        moveWayOfFullWays();
         giveWay();
         setLeast();
         setEpoch();
@@ -69,9 +70,17 @@ final class PartitionTest {
         x.access(0, 1);
         x.access(0, 5);
         x.access(0, 8);
-        // way 0: 0 and 1, way 4: 4 is gone or not, way 1: one line of its own
         Checks.due("donor's lines: line(0, 1)", x.line(0, 1), 8);
-        Checks.due("donor's lines: way 1 has one, as few as none else", x.moveWay(), 1);
+        // ways 0 and 4 hold two lines of tenant 0 each, way 1 holds one, beside two of tenant 1
+        Checks.due("donor's lines: moveWay() again", x.moveWay(), 1);
+    }
+
+    private static void moveWayOfFullWays() {
+        PartitionedCache x = new PartitionedCache();
+        x.giveWay(1, 0);
+        x.stream(0, 0, 1, 12);
+        Checks.due("full ways: lines(0, false)", x.lines(0, false), 12);
+        Checks.due("full ways: moveWay()", x.moveWay(), 0);
     }
 
     private static void giveWay() {
@@ -149,6 +158,10 @@ final class PartitionTest {
         x.undo();
         x.undo();
         Checks.due("halve: undone", x.gain(0, 3), 36);
+        x.stream(0, 16, 64, 13); // only the gain at position 3 grows, by 9
+        x.access(0, 16);
+        Checks.due("halve: gain(0, 0) before", x.gain(0, 0), 2);
+        Checks.due("halveGains() with a first gain of 2", x.halveGains(), 1 + 45 / 2 + 1);
         PartitionedCache y = new PartitionedCache();
         Checks.due("halveGains() of a new object", y.halveGains(), 0);
         Checks.due("halve: a state is saved all the same", y.savedStates(), 1);

@@ -56,6 +56,7 @@ final class QueryTest {
         Checks.due("ifAccessed(2, 7)", x.ifAccessed(2, 7), 1);
         Checks.due("ifAccessed(2, 3)", x.ifAccessed(2, 3), 0);
         Checks.due("ifAccessed(1, 7)", x.ifAccessed(1, 7), 0);
+        Checks.due("ifAccessed(3, 255)", x.ifAccessed(3, 255), 0);
         x.giveWay(2, 1);
         x.giveWay(6, 1);
         Checks.due("ifAccessed(2, 7) of a foreign line", x.ifAccessed(2, 7), 1);
@@ -67,6 +68,7 @@ final class QueryTest {
         Checks.due("victim(1, 0) of the empty cache", x.victim(1, 0), -1);
         x.access(1, 0);
         Checks.due("victim(1, 4) with one empty place", x.victim(1, 4), -1);
+        Checks.due("victim(3, 255)", x.victim(3, 255), -1);
         x.access(1, 4);
         Checks.due("victim(1, 8)", x.victim(1, 8), 256);
         Checks.due("victim(1, 0) of a hit", x.victim(1, 0), -1);

@@ -2,6 +2,7 @@
 final class UndoTest {
     public static void main(String[] args) {
         undoEachKind();
+        undoOfStamps();
         undoKeepsSix();
         undoRefuses();
         saveCopies();
@@ -35,6 +36,20 @@ final class UndoTest {
         }
         Checks.due("undo: the epoch length is back", x.setEpoch(0), 50);
         Checks.due("undo: the least number is back", x.setLeast(1, 0), 1);
+    }
+
+    private static void undoOfStamps() {
+        PartitionedCache x = new PartitionedCache();
+        x.access(0, 0);
+        x.access(0, 4);
+        x.save(0);
+        x.access(0, 0);
+        Checks.due("stamps: victim(0, 8)", x.victim(0, 8), 4);
+        x.undo();
+        Checks.due("stamps: victim(0, 8) after undo", x.victim(0, 8), 0);
+        x.access(0, 0);
+        x.restore(0);
+        Checks.due("stamps: victim(0, 8) after restore", x.victim(0, 8), 0);
     }
 
     private static void undoKeepsSix() {
