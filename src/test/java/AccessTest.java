@@ -7,18 +7,15 @@ final class AccessTest {
         accessToForeignLines();
         accessWithoutWays();
         accessEndsEpochs();
-        accessRefuses();
         streamSteps();
         streamIsOneCall();
         streamEndsEpochs();
-        streamRefuses();
         flushRemoves();
-        flushRefuses();
         Checks.end("AccessTest");
     }
 
     private static void newObject() {
-        PartitionedCache x = new PartitionedCache();
+        CountedCache x = new CountedCache();
         for (int way = 0; way < 8; way++) {
             Checks.due("new: owner(" + way + ")", x.owner(way), way % 4);
             for (int set = 0; set < 4; set++) {
@@ -43,7 +40,7 @@ final class AccessTest {
     }
 
     private static void accessFillsOwnWays() {
-        PartitionedCache x = new PartitionedCache();
+        CountedCache x = new CountedCache();
         Checks.due("fill: access(2, 255)", x.access(2, 255), 0);
         Checks.due("fill: line(3, 2)", x.line(3, 2), 2 * 256 + 255);
         Checks.due("fill: access(2, 3)", x.access(2, 3), 0);
@@ -59,7 +56,7 @@ final class AccessTest {
     }
 
     private static void accessEvictsTheLeastStamp() {
-        PartitionedCache x = new PartitionedCache();
+        CountedCache x = new CountedCache();
         x.access(0, 0);
         x.access(0, 4);
         x.access(0, 0);
@@ -72,7 +69,7 @@ final class AccessTest {
     }
 
     private static void accessToForeignLines() {
-        PartitionedCache x = new PartitionedCache();
+        CountedCache x = new CountedCache();
         x.access(0, 1);
         x.giveWay(0, 1);
         Checks.due("foreign: a foreign line is a hit", x.access(0, 1), 1);
@@ -88,7 +85,7 @@ final class AccessTest {
     }
 
     private static void accessWithoutWays() {
-        PartitionedCache x = new PartitionedCache();
+        CountedCache x = new CountedCache();
         x.access(3, 2);
         x.giveWay(3, 0);
         x.giveWay(7, 0);
@@ -102,7 +99,7 @@ final class AccessTest {
     }
 
     private static void accessEndsEpochs() {
-        PartitionedCache x = new PartitionedCache();
+        CountedCache x = new CountedCache();
         x.setEpoch(4);
         x.setLeast(1, 2);
         x.setLeast(2, 0);
@@ -140,7 +137,7 @@ final class AccessTest {
     }
 
     private static void bypassEndsEpoch() {
-        PartitionedCache x = new PartitionedCache();
+        CountedCache x = new CountedCache();
         x.setEpoch(1);
         x.giveWay(3, 0);
         x.giveWay(7, 0);
@@ -149,22 +146,8 @@ final class AccessTest {
         Checks.due("epoch: one way alone is moved", x.waysOf(0), 3);
     }
 
-    private static void accessRefuses() {
-        PartitionedCache x = new PartitionedCache();
-        x.access(1, 8);
-        Checks.outOfBounds(x, "access(-1, 0)", () -> x.access(-1, 0));
-        Checks.outOfBounds(x, "access(4, 0)", () -> x.access(4, 0));
-        Checks.outOfBounds(x, "access(4, 256)", () -> x.access(4, 256));
-        Checks.badArgument(x, "access(0, -1)", () -> x.access(0, -1));
-        Checks.badArgument(x, "access(3, 256)", () -> x.access(3, 256));
-        Checks.badArgument(x, "access(0, least int)", () -> x.access(0, Integer.MIN_VALUE));
-        Checks.outOfBounds(x, "access(greatest int, 0)", () -> x.access(Integer.MAX_VALUE, 0));
-        Checks.due("access(0, 0)", x.access(0, 0), 0);
-        Checks.due("access(3, 255)", x.access(3, 255), 0);
-    }
-
     private static void streamSteps() {
-        PartitionedCache x = new PartitionedCache();
+        CountedCache x = new CountedCache();
         Checks.due("stream(1, 254, 3, 3)", x.stream(1, 254, 3, 3), 0);
         Checks.due("stream: 254", x.line(2, 1), 256 + 254);
         Checks.due("stream: 257 is 1", x.line(1, 1), 256 + 1);
@@ -178,15 +161,15 @@ final class AccessTest {
     }
 
     private static void streamIsOneCall() {
-        PartitionedCache x = new PartitionedCache();
+        CountedCache x = new CountedCache();
         x.stream(0, 0, 1, 40);
         Checks.due("stream: savedStates()", x.savedStates(), 1);
         x.undo();
-        Checks.due("stream: undone", Checks.looksOf(x), Checks.looksOf(new PartitionedCache()));
+        Checks.due("stream: undone", Checks.looksOf(x), Checks.looksOf(new CountedCache()));
     }
 
     private static void streamEndsEpochs() {
-        PartitionedCache x = new PartitionedCache();
+        CountedCache x = new CountedCache();
         x.setEpoch(2);
         for (int way = 1; way < 8; way++) {
             x.giveWay(way, 0);
@@ -198,23 +181,8 @@ final class AccessTest {
         Checks.due("stream: waysOf(2)", x.waysOf(2), 1);
     }
 
-    private static void streamRefuses() {
-        PartitionedCache x = new PartitionedCache();
-        x.stream(0, 0, 1, 9);
-        Checks.outOfBounds(x, "stream(4, 256, 0, 0)", () -> x.stream(4, 256, 0, 0));
-        Checks.outOfBounds(x, "stream(-1, 0, 1, 1)", () -> x.stream(-1, 0, 1, 1));
-        Checks.badArgument(x, "stream(0, -1, 1, 1)", () -> x.stream(0, -1, 1, 1));
-        Checks.badArgument(x, "stream(0, 256, 1, 1)", () -> x.stream(0, 256, 1, 1));
-        Checks.badArgument(x, "stream(0, 0, 0, 1)", () -> x.stream(0, 0, 0, 1));
-        Checks.badArgument(x, "stream(0, 0, 65, 1)", () -> x.stream(0, 0, 65, 1));
-        Checks.badArgument(x, "stream(0, 0, 1, 0)", () -> x.stream(0, 0, 1, 0));
-        Checks.badArgument(x, "stream(0, 0, 1, 41)", () -> x.stream(0, 0, 1, 41));
-        Checks.badArgument(x, "stream(0, 0, -5, 1)", () -> x.stream(0, 0, -5, 1));
-        Checks.due("stream(3, 255, 64, 40)", x.stream(3, 255, 64, 40), 0);
-    }
-
     private static void flushRemoves() {
-        PartitionedCache x = new PartitionedCache();
+        CountedCache x = new CountedCache();
         x.stream(0, 0, 1, 8);
         x.access(1, 0);
         x.giveWay(4, 1);
@@ -232,12 +200,5 @@ final class AccessTest {
         Checks.due("flush: undone", x.lines(0, false), 8);
         x.flush(3);
         Checks.due("flush: ifAccessed(0, 0)", x.ifAccessed(0, 0), 1);
-    }
-
-    private static void flushRefuses() {
-        PartitionedCache x = new PartitionedCache();
-        x.access(0, 0);
-        Checks.outOfBounds(x, "flush(-1)", () -> x.flush(-1));
-        Checks.outOfBounds(x, "flush(4)", () -> x.flush(4));
     }
 }

@@ -4,12 +4,11 @@ final class CountTest {
         counts();
         hitRates();
         lengths();
-        refusals();
         Checks.end("CountTest");
     }
 
     private static void counts() {
-        PartitionedCache x = new PartitionedCache();
+        CountedCache x = new CountedCache();
         x.stream(0, 0, 4, 5);
         x.access(0, 16);
         x.giveWay(1, 0);
@@ -30,7 +29,7 @@ final class CountTest {
     }
 
     private static void hitRates() {
-        PartitionedCache x = new PartitionedCache();
+        CountedCache x = new CountedCache();
         Checks.due("hitRate(0) of no access", x.hitRate(0), 0.0);
         x.access(0, 0);
         Checks.due("hitRate(0) of a miss", x.hitRate(0), 0.0);
@@ -53,7 +52,7 @@ final class CountTest {
     }
 
     private static void lengths() {
-        PartitionedCache x = new PartitionedCache();
+        CountedCache x = new CountedCache();
         Checks.append(x, "abc");
         Checks.due("textLength()", x.textLength(), 3);
         Checks.due("savedStates()", x.savedStates(), 0);
@@ -66,15 +65,5 @@ final class CountTest {
         }
         Checks.due("savedStates() after eight calls", x.savedStates(), 6);
         Checks.due("textLength() all the while", x.textLength(), 3);
-    }
-
-    private static void refusals() {
-        PartitionedCache x = new PartitionedCache();
-        x.access(0, 0);
-        for (int bad : new int[] {-1, 4, Integer.MIN_VALUE, Integer.MAX_VALUE}) {
-            Checks.outOfBounds(x, "count(" + bad + ", 4)", () -> x.count(bad, 4));
-            Checks.outOfBounds(x, "hitRate(" + bad + ")", () -> x.hitRate(bad));
-            Checks.badArgument(x, "count(0, " + bad + ")", () -> x.count(0, bad));
-        }
     }
 }

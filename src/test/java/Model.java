@@ -7,7 +7,8 @@ import java.util.regex.Pattern;
 
 /**
  * The document once more, as near to its words as can be, with none of the program's code or layout:
- * what the random runs are compared with. Arguments are taken to be right; ModelRuns asks for wrong ones.
+ * what the random runs are compared with. Arguments are taken to be right; RangeTest and
+ * RefusalTest ask for wrong ones.
  */
 final class Model {
     static final class Line {

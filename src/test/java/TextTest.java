@@ -2,41 +2,25 @@
 final class TextTest {
     public static void main(String[] args) {
         appendText();
-        appendTextRefuses();
         clearText();
         validTexts();
         errorPositions();
         runText();
         runTextIsOneCall();
         runTextEndsEpochs();
-        runTextRefuses();
         Checks.end("TextTest");
     }
 
     private static void appendText() {
-        PartitionedCache x = new PartitionedCache();
+        CountedCache x = new CountedCache();
         Checks.due("appendText(32)", x.appendText(32), 1);
         Checks.due("appendText(126)", x.appendText(126), 2);
         Checks.due("append: textLength()", x.textLength(), 2);
         Checks.due("append: savedStates()", x.savedStates(), 0);
     }
 
-    private static void appendTextRefuses() {
-        PartitionedCache x = new PartitionedCache();
-        Checks.badArgument(x, "appendText(31)", () -> x.appendText(31));
-        Checks.badArgument(x, "appendText(127)", () -> x.appendText(127));
-        Checks.badArgument(x, "appendText(-1)", () -> x.appendText(-1));
-        Checks.badArgument(x, "appendText(65536 + 'm')", () -> x.appendText(65536 + 'm'));
-        for (int i = 1; i <= 80; i++) {
-            Checks.due("appendText, character " + i, x.appendText(i % 2 == 0 ? ';' : 'm'), i);
-        }
-        Checks.badState(x, "appendText('m') to 80 characters", () -> x.appendText('m'));
-        Checks.badArgument(x, "appendText(31) to 80 characters", () -> x.appendText(31));
-        Checks.due("append: 80 characters that end too early", x.errorPosition(), 80);
-    }
-
     private static void clearText() {
-        PartitionedCache x = new PartitionedCache();
+        CountedCache x = new CountedCache();
         Checks.due("clearText() of the empty text", x.clearText(), 0);
         Checks.append(x, "0:1;m");
         Checks.due("clearText()", x.clearText(), 5);
@@ -50,7 +34,7 @@ final class TextTest {
     private static void validTexts() {
         String[] texts = {"m", "h", "f0", "f3", "0:0", "3:255", "1:9", "2:10", "1:99", "1:100", "1:199", "1:200",
             "1:249", "1:250", "m;h;f1;0:0;0:25", "m;m;m", "0:0;0:0"};
-        PartitionedCache x = new PartitionedCache();
+        CountedCache x = new CountedCache();
         for (String text : texts) {
             Checks.setText(x, text);
             Checks.due("errorPosition() of \"" + text + "\"", x.errorPosition(), -1);
@@ -60,7 +44,7 @@ final class TextTest {
     }
 
     private static void errorPositions() {
-        PartitionedCache x = new PartitionedCache();
+        CountedCache x = new CountedCache();
         Object[][] rows = {
             // too early
             {"", 0}, {"f", 1}, {"0", 1}, {"0:", 2}, {"m;", 2}, {"0:1;", 4}, {"h;f", 3}, {"m;2:", 4},
@@ -80,7 +64,7 @@ final class TextTest {
     }
 
     private static void runText() {
-        PartitionedCache x = new PartitionedCache();
+        CountedCache x = new CountedCache();
         Checks.append(x, "0:0;0:0;1:255;0:0;h;f1;1:255;3:12");
         Checks.due("runText()", x.runText(), 2);
         Checks.due("run: gain(0, 0)", x.gain(0, 0), 1);
@@ -97,7 +81,7 @@ final class TextTest {
     }
 
     private static void runTextIsOneCall() {
-        PartitionedCache x = new PartitionedCache();
+        CountedCache x = new CountedCache();
         x.access(0, 3);
         String before = Checks.looksOf(x);
         Checks.append(x, "0:0;f0;m;h;2:8");
@@ -110,22 +94,12 @@ final class TextTest {
     }
 
     private static void runTextEndsEpochs() {
-        PartitionedCache x = new PartitionedCache();
+        CountedCache x = new CountedCache();
         x.setEpoch(2);
         x.giveWay(1, 0);
         Checks.append(x, "0:4;0:4");
         Checks.due("run: hits", x.runText(), 1);
         Checks.due("run: an epoch ends", x.gain(0, 0), 0);
         Checks.due("run: a way is moved at its end", x.waysOf(0), 2);
-    }
-
-    private static void runTextRefuses() {
-        PartitionedCache x = new PartitionedCache();
-        x.access(0, 0);
-        Checks.badState(x, "runText() of the empty text", x::runText);
-        for (String text : new String[] {"0:0;", "0:0;0:256", "0:0;f4", "m;x", "f"}) {
-            Checks.setText(x, text);
-            Checks.badState(x, "runText() of \"" + text + "\"", x::runText);
-        }
     }
 }

@@ -1,45 +1,16 @@
 /** Promises 14 to 16 and 32: undo, save, restore, savedStates. */
 final class UndoTest {
     public static void main(String[] args) {
-        undoEachKind();
         undoOfStamps();
         undoKeepsSix();
-        undoRefuses();
         saveCopies();
         restoreIsUndoable();
         slotsAreApart();
-        slotsRefuse();
         Checks.end("UndoTest");
     }
 
-    /** Every undoable call saves one state, and undo brings all that can be seen back. */
-    private static void undoEachKind() {
-        PartitionedCache x = new PartitionedCache();
-        x.setEpoch(50);
-        x.stream(0, 0, 2, 20);
-        x.stream(0, 0, 2, 20);
-        x.save(1);
-        x.stream(1, 0, 4, 9);
-        x.giveWay(2, 0);
-        x.undo();
-        Checks.append(x, "0:0;0:4");
-        Checks.Call[] calls = {() -> x.access(1, 4), () -> x.stream(2, 0, 1, 40), () -> x.flush(0), x::moveWay,
-            () -> x.giveWay(0, 3), () -> x.setLeast(1, 2), () -> x.setEpoch(3), x::halveGains, x::runText,
-            () -> x.restore(1)};
-        for (int i = 0; i < calls.length; i++) {
-            String before = Checks.looksOf(x);
-            int states = x.savedStates();
-            calls[i].answer();
-            Checks.due("undo " + i + ": savedStates() after the call", x.savedStates(), states + 1);
-            Checks.due("undo " + i + ": undo()", x.undo(), states);
-            Checks.due("undo " + i + ": all is as before:", Checks.looksOf(x), before);
-        }
-        Checks.due("undo: the epoch length is back", x.setEpoch(0), 50);
-        Checks.due("undo: the least number is back", x.setLeast(1, 0), 1);
-    }
-
     private static void undoOfStamps() {
-        PartitionedCache x = new PartitionedCache();
+        CountedCache x = new CountedCache();
         x.access(0, 0);
         x.access(0, 4);
         x.save(0);
@@ -53,7 +24,7 @@ final class UndoTest {
     }
 
     private static void undoKeepsSix() {
-        PartitionedCache x = new PartitionedCache();
+        CountedCache x = new CountedCache();
         for (int i = 1; i <= 9; i++) {
             x.access(0, i);
             Checks.due("six: savedStates() after " + i, x.savedStates(), Math.min(i, 6));
@@ -62,25 +33,14 @@ final class UndoTest {
             Checks.due("six: undo()", x.undo(), i);
             Checks.due("six: accesses()", x.accesses(), 3 + i);
         }
-        Checks.badState(x, "six: undo() of the oldest, which is discarded", x::undo);
+        Checks.due("six: undo() of the oldest, which is discarded", Checks.outcome(x::undo), Refusals.BAD_STATE);
         x.access(0, 100);
         Checks.due("six: undo() after a new call", x.undo(), 0);
         Checks.due("six: accesses() after it", x.accesses(), 3);
     }
 
-    private static void undoRefuses() {
-        PartitionedCache x = new PartitionedCache();
-        Checks.badState(x, "undo() of a new object", x::undo);
-        x.save(0);
-        Checks.append(x, "m");
-        Checks.badState(x, "undo() when nothing undoable was called", x::undo);
-        x.moveWay();
-        Checks.due("undo() of a call that changed nothing", x.undo(), 0);
-        Checks.due("undo() leaves the text", x.textLength(), 1);
-    }
-
     private static void saveCopies() {
-        PartitionedCache x = new PartitionedCache();
+        CountedCache x = new CountedCache();
         Checks.due("save(0) of a new object", x.save(0), 0);
         x.stream(1, 0, 1, 6);
         x.access(2, 0);
@@ -106,7 +66,7 @@ final class UndoTest {
     }
 
     private static void restoreIsUndoable() {
-        PartitionedCache x = new PartitionedCache();
+        CountedCache x = new CountedCache();
         x.save(0);
         x.stream(0, 0, 4, 10);
         x.stream(0, 0, 4, 8);
@@ -124,7 +84,7 @@ final class UndoTest {
     }
 
     private static void slotsAreApart() {
-        PartitionedCache x = new PartitionedCache();
+        CountedCache x = new CountedCache();
         x.access(0, 0);
         x.save(0);
         x.access(0, 1);
@@ -136,19 +96,5 @@ final class UndoTest {
         Checks.due("apart: undo leaves the slots: restore(1)", x.restore(1), 3);
         Checks.due("apart: restore(0)", x.restore(0), 1);
         Checks.due("apart: accesses()", x.accesses(), 1);
-    }
-
-    private static void slotsRefuse() {
-        PartitionedCache x = new PartitionedCache();
-        x.access(1, 1);
-        Checks.outOfBounds(x, "save(2)", () -> x.save(2));
-        Checks.outOfBounds(x, "save(-1)", () -> x.save(-1));
-        Checks.outOfBounds(x, "restore(2)", () -> x.restore(2));
-        Checks.outOfBounds(x, "restore(-1)", () -> x.restore(-1));
-        Checks.badState(x, "restore(0) of an empty slot", () -> x.restore(0));
-        Checks.badState(x, "restore(1) of an empty slot", () -> x.restore(1));
-        x.save(1);
-        Checks.badState(x, "restore(0) when slot 1 is filled", () -> x.restore(0));
-        Checks.due("restore(1)", x.restore(1), 1);
     }
 }
