@@ -10,6 +10,7 @@ final class StateBoundsTest {
         undoOfOneSavedState();
         sixthSavedState();
         seventhSavedState();
+        seventhSavedStateOfEachCall();
         manySavedStates();
         undoAndSaveByTurns();
         undoIsNotUndoable();
@@ -182,6 +183,24 @@ final class StateBoundsTest {
     private static void seventhSavedState() {
         undone("seven", afterAccesses(7), 1, 2, 3, 4, 5, 6);
         undone("eight", afterAccesses(8), 2, 3, 4, 5, 6, 7);
+    }
+
+    private static void seventhSavedStateOfEachCall() {
+        for (int i = 0; i < UNDOABLE.length; i++) {
+            // saved so far: before setEpoch, the two streams, giveWay and two accesses
+            CountedCache x = ready();
+            x.access(0, 0);
+            x.access(0, 0);
+            Checks.due("six before " + i + ": savedStates()", x.savedStates(), 6);
+            UNDOABLE[i].of(x);
+            Checks.due("seventh by " + i + ": savedStates()", x.savedStates(), 6);
+            for (int states = 5; states >= 0; states--) {
+                Checks.due("seventh by " + i + ": undo()", x.undo(), states);
+            }
+            Checks.due("seventh by " + i + ": undo() of none", Checks.outcome(x::undo), Refusals.BAD_STATE);
+            Checks.due("seventh by " + i + ": accesses()", x.accesses(), 0);
+            Checks.due("seventh by " + i + ": setEpoch is not undone", x.setEpoch(0), 90);
+        }
     }
 
     private static void manySavedStates() {
