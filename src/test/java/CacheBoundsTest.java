@@ -1,4 +1,7 @@
-/** Sections 1 and 2, and promises 1 to 4 and 15 to 22, at their boundaries: each test names the sentence it holds to. */
+/**
+ * Sections 1 and 2, and promises 1 to 4 and 15 to 22, at their boundaries:
+ * a sentence stands above the first test that holds to it.
+ */
 final class CacheBoundsTest {
     private static final int MISS = 0, HIT = 1, BYPASS = 2, EVICTED = 3;
 
@@ -206,6 +209,7 @@ final class CacheBoundsTest {
         Checks.due("one way: access(3, 0) at last", x.access(3, 0), HIT);
     }
 
+    /** "Otherwise, if the tenant owns no way, the access is a bypass." The steps a and b are made. */
     private static void noWay() {
         CountedCache x = new CountedCache();
         x.giveWay(3, 0);
@@ -230,6 +234,7 @@ final class CacheBoundsTest {
         Checks.due("no way but a line: count(3, HIT)", x.count(3, HIT), 1);
     }
 
+    /** "if one of these places is empty, otherwise": eight lines fill the set, the ninth evicts. */
     private static void eightWays() {
         CountedCache x = new CountedCache();
         Checks.giveWays(x, "22222222");
@@ -251,6 +256,7 @@ final class CacheBoundsTest {
         return x;
     }
 
+    /** All 32 places hold lines: each miss evicts one. */
     private static void fullCache() {
         CountedCache x = full();
         Checks.due("full: set 0", Checks.linesOfSet(x, 0), "0 256 512 768 4 260 516 772");
@@ -319,6 +325,7 @@ final class CacheBoundsTest {
         Checks.due("whose eviction: count(3, 3)", x.count(3, EVICTED), 0);
     }
 
+    /** "this line is evicted": an empty place has none. */
     private static void missInAnEmptyPlaceEvictsNothing() {
         CountedCache x = new CountedCache();
         x.access(1, 0);
@@ -368,6 +375,7 @@ final class CacheBoundsTest {
         Checks.due("stream to 2710: monitored(0, 2, 0)", y.monitored(0, 2, 0), 150);
     }
 
+    /** "count: the number of accesses, 1 to 40" */
     private static void streamOfOne() {
         CountedCache x = new CountedCache();
         Checks.due("stream(1, 4, 64, 1)", x.stream(1, 4, 64, 1), 0);
@@ -455,6 +463,7 @@ final class CacheBoundsTest {
 
     // ---- queries
 
+    /** "Returns the number of ways that a tenant owns." */
     private static void waysOfNoneAndAll() {
         CountedCache x = new CountedCache();
         Checks.giveWays(x, "11111111");
@@ -463,6 +472,7 @@ final class CacheBoundsTest {
         Checks.due("waysOf(3) of none", x.waysOf(3), 0);
     }
 
+    /** "true for its foreign lines only, false for all its lines" */
     private static void linesOfNoneAndAll() {
         CountedCache x = new CountedCache();
         Checks.due("lines(2, false) of none", x.lines(2, false), 0);
@@ -489,6 +499,7 @@ final class CacheBoundsTest {
         Checks.due("restore(1) of the empty cache", x.restore(1), 0);
     }
 
+    /** "Tells what an access would be now." */
     private static void ifAccessedAtItsEdges() {
         CountedCache x = new CountedCache();
         x.access(0, 0);
@@ -530,6 +541,7 @@ final class CacheBoundsTest {
         Checks.due("victim(0, 8) with the way 7 empty", x.victim(0, 8), -1);
     }
 
+    /** "Tells which line a miss would evict now" */
     private static void victimIsWhatTheMissEvicts() {
         CountedCache x = full();
         x.giveWay(3, 1);

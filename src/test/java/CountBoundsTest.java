@@ -23,6 +23,7 @@ final class CountBoundsTest {
         Checks.end("CountBoundsTest");
     }
 
+    /** "Creates an empty cache." */
     private static void firstCounts() {
         CountedCache x = new CountedCache();
         for (int tenant = 0; tenant < 4; tenant++) {
@@ -68,6 +69,7 @@ final class CountBoundsTest {
         Checks.due("accesses()", x.accesses(), 22);
     }
 
+    /** Only an access counts, and no call but undo and restore takes a count back. */
     private static void countsOutliveTheLines() {
         CountedCache x = new CountedCache();
         x.stream(0, 0, 4, 3);
@@ -91,6 +93,7 @@ final class CountBoundsTest {
         Checks.due("hitRate(0) when all are undone", x.hitRate(0), 0.0);
     }
 
+    /** A bypass is an access, and no hit. */
     private static void hitRateOfMissesAndBypasses() {
         CountedCache x = new CountedCache();
         x.access(0, 0);

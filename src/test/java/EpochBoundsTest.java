@@ -1,4 +1,7 @@
-/** Step f of section 2, and promise 8, at their boundaries: each test names the sentence it holds to. */
+/**
+ * Step f of section 2, and promise 8, at their boundaries:
+ * a sentence stands above the first test that holds to it.
+ */
 final class EpochBoundsTest {
     public static void main(String[] args) {
         firstLength();
@@ -57,6 +60,7 @@ final class EpochBoundsTest {
         Checks.due("length 0: owners", Checks.ownersOf(x), "11230123");
     }
 
+    /** "If the epoch length is not 0 and c is a multiple of it": all are multiples of 1. */
     private static void lengthOfOne() {
         CountedCache x = gainOfTwo();
         x.setEpoch(1);
@@ -111,6 +115,7 @@ final class EpochBoundsTest {
         Checks.due("of the count: gain(0, 0) after the fourth", x.gain(0, 0), 1);
     }
 
+    /** It is an access that ends an epoch, not setEpoch. */
     private static void setAtAMultiple() {
         CountedCache x = gainOfTwo();
         x.giveWay(0, 1);
@@ -131,6 +136,7 @@ final class EpochBoundsTest {
         Checks.due("back to 0: gain(0, 0)", x.gain(0, 0), 2);
     }
 
+    /** Step f is made behind each of the steps c, d and e. */
     private static void endsAtAHit() {
         CountedCache x = gainOfTwo();
         x.setEpoch(4);
@@ -155,6 +161,7 @@ final class EpochBoundsTest {
         Checks.due("at a bypass: owners", Checks.ownersOf(x), "01230223");
     }
 
+    /** "Let c be the access count after that": one count for all tenants. */
     private static void ofAllTenantsAccesses() {
         CountedCache x = new CountedCache();
         x.setEpoch(4);
@@ -198,6 +205,7 @@ final class EpochBoundsTest {
         Checks.due("last line: the lowest way without a line", Checks.ownersOf(z), "01233120");
     }
 
+    /** "one way is moved" */
     private static void movesOneWay() {
         CountedCache x = new CountedCache();
         x.setEpoch(2);
@@ -208,6 +216,7 @@ final class EpochBoundsTest {
         Checks.due("one way: owners after two", Checks.ownersOf(x), "01000000");
     }
 
+    /** "and then all gains are halved": also when no way is moved. */
     private static void halvesWithoutAMove() {
         CountedCache x = gainOfTwo();
         x.setEpoch(4);
@@ -216,6 +225,7 @@ final class EpochBoundsTest {
         Checks.due("without a move: gain(0, 0)", x.gain(0, 0), 1);
     }
 
+    /** "Makes several accesses of a tenant, one after the other": each may end an epoch. */
     private static void severalInOneStream() {
         CountedCache x = new CountedCache();
         x.setEpoch(13);
@@ -244,6 +254,7 @@ final class EpochBoundsTest {
         Checks.due("forty in another stream: owners", Checks.ownersOf(y), "10213230");
     }
 
+    /** "Executes all commands of the text in their order, as access() ... do" */
     private static void inAText() {
         CountedCache x = gainOfTwo();
         x.giveWay(0, 1);

@@ -1,4 +1,7 @@
-/** Section 3, and promises 9 and 23 to 25, at their boundaries: each test names the sentence it holds to. */
+/**
+ * Section 3, and promises 9 and 23 to 25, at their boundaries:
+ * a sentence stands above the first test that holds to it.
+ */
 final class MonitorBoundsTest {
     private static final String EMPTY = "-1 -1 -1 -1 -1 -1 -1 -1";
     private static final String NO_GAIN = "0 0 0 0 0 0 0 0";

@@ -343,7 +343,8 @@ final class RangeTest {
     }
 
     private static void countTenant() {
-        range("count: tenant", BOUNDS, 0, 3, RangeTest::missesOfTwoTenants, both(1, 3), (x, tenant) -> x.count(tenant, 0));
+        range("count: tenant", BOUNDS, 0, 3, RangeTest::missesOfTwoTenants, both(1, 3),
+                (x, tenant) -> x.count(tenant, 0));
     }
 
     private static void countWhat() {

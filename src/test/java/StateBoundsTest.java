@@ -1,4 +1,7 @@
-/** Section 7, and promises 14 to 16 and 32, at their boundaries: each test names the sentence it holds to. */
+/**
+ * Section 7, and promises 14 to 16 and 32, at their boundaries:
+ * a sentence stands above the first test that holds to it.
+ */
 final class StateBoundsTest {
     public static void main(String[] args) {
         firstSavedStatesAndSlots();
@@ -302,6 +305,7 @@ final class StateBoundsTest {
         Checks.due(of + ": the epoch length", x.setEpoch(1), 70);
     }
 
+    /** All parts at once, each changed by changeAll. */
     private static void undoBringsBackEachPart() {
         lookAtAllParts("as made", allParts());
         CountedCache x = allParts();
@@ -341,6 +345,7 @@ final class StateBoundsTest {
         Checks.due(of + " after restore", look.of(z), due);
     }
 
+    /** Each part by itself, in each of its places. */
     private static void eachOwnerComesBack() {
         for (int i = 0; i < 8; i++) {
             int way = i;
@@ -436,6 +441,7 @@ final class StateBoundsTest {
 
     // ---- slots
 
+    /** The first state may be saved too: the slot is not empty then. */
     private static void saveOfANewObject() {
         CountedCache x = new CountedCache();
         Checks.due("new: save(0)", x.save(0), 0);

@@ -1,4 +1,7 @@
-/** Sections 4 and 5, and promises 5 to 7 and 26 to 28, at their boundaries: each test names the sentence it holds to. */
+/**
+ * Sections 4 and 5, and promises 5 to 7 and 26 to 28, at their boundaries:
+ * a sentence stands above the first test that holds to it.
+ */
 final class TargetBoundsTest {
     public static void main(String[] args) {
         firstTargets();
@@ -265,6 +268,7 @@ final class TargetBoundsTest {
         targets("2 / 1 alone", x, "2222");
     }
 
+    /** Who owns a way plays no part in section 4. */
     private static void targetsDoNotFollowTheWays() {
         CountedCache x = new CountedCache();
         Checks.giveGain(x, 0, 3, 6);
@@ -300,6 +304,7 @@ final class TargetBoundsTest {
         moves("no deficit of other targets", y, -1, "00001123");
     }
 
+    /** "Otherwise the receiver ...": a deficit of 1 is enough. */
     private static void deficitOfOne() {
         CountedCache x = new CountedCache();
         x.giveWay(7, 0);

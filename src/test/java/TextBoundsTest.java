@@ -1,4 +1,7 @@
-/** Section 6, and promises 10 to 13 and 33, at their boundaries: each test names the sentence it holds to. */
+/**
+ * Section 6, and promises 10 to 13 and 33, at their boundaries:
+ * a sentence stands above the first test that holds to it.
+ */
 final class TextBoundsTest {
     /** 80 characters, and valid. */
     private static final String FULL = "0:255;".repeat(13) + "f2";
@@ -206,6 +209,7 @@ final class TextBoundsTest {
         position("2:200", -1);
     }
 
+    /** All numbers up to 320, and all characters at the places of the grammar. */
     private static void eachNumber() {
         for (int number = 0; number <= 320; number++) {
             position("3:" + number, number <= 255 ? -1 : 4);
@@ -382,6 +386,7 @@ final class TextBoundsTest {
         Checks.due("address 100", x.ifAccessed(1, 100), 1);
     }
 
+    /** ""ft": flush the tenant" */
     private static void runFlushesTheTenant() {
         for (int tenant = 0; tenant < 4; tenant++) {
             CountedCache x = new CountedCache();
