@@ -56,7 +56,7 @@ final class Refusals {
         return x;
     }
 
-    private static Object stampsLeastsAndEpoch(CountedCache x) {
+    static Object stampsLeastsAndEpoch(CountedCache x) {
         StringBuilder looks = new StringBuilder();
         for (int tenant = 0; tenant < 4; tenant++) {
             for (int set = 0; set < 4; set++) {
